@@ -218,6 +218,11 @@ public final class PromiseTest {
         readE("4|seen");
         readE("|glance");
         readE("|glancess");
+        readE("|seenz");
+        readE("|aseen");
+        readE("|xight");
+        readE("|lighx");
+        readE("|z");
         readE("|warmt");
         readE("|Seen");
         readE("1 |\t");
@@ -693,6 +698,12 @@ public final class PromiseTest {
         Due.is("red at first alone", 0, y.red(0, 1));
         Due.is("no first", -1, y.red(0, 2));
         Due.is("no last", -1, y.red(0, 3));
+        y.cause(39, 0, 75);
+        Due.is("behind the last: 10 less, 75 more", 39, y.red(0, 2));
+        y.uncause();
+        y.warm(0, 70);
+        Due.is("behind the first alone", 0, y.red(0, 3));
+        y.warm(0, 65);
         y.cause(20, 0, 75);
         Due.is("once", 1, y.red(0, 1));
         Due.is("first", 20, y.red(0, 2));
@@ -810,6 +821,7 @@ public final class PromiseTest {
         Due.is("at 20", NOT_TOLD, x.stops(0, 20, 0));
         Due.is("at 99", NOT_TOLD, x.stops(0, 199, 0));
         Due.is("at 20", NOT_TOLD, x.stops(0, 220, 0));
+        Due.is("what 4", NOT_TOLD, x.stops(0, 400, 0));
         Due.is("HIGH", NOT_TOLD, x.stops(0, HIGH, 0));
         Due.is("turning away", 280, x.stops(0, 0, 0));
         Due.is("a pencil: 5 times 15 less", 205, x.stops(0, 119, 0));
@@ -872,6 +884,16 @@ public final class PromiseTest {
         z.face(4, 0, 0);
         Due.is("42, 34, .. 2, 9, .. 65 behind 20: as by 107, 108, 301", 106, z.best(0, 0));
         Due.is("20 .. 40", 21, z.best(0, 1));
+        GoneRed w = Due.world(STILL);
+        w.face(0, 0, 0);
+        w.cause(24, 0, 60);
+        Due.is("a pencil at 20 would, but at is 19 at most", -1, w.best(0, 0));
+        Due.is("24 .. 39", 16, w.best(0, 1));
+        w.uncause();
+        w.cause(39, 0, 55);
+        w.warm(0, 10);
+        Due.is("red once, and by a pencil never", 100, w.best(0, 0));
+        Due.is("never", 0, w.best(0, 1));
     }
 
     private static void latest() {
@@ -901,6 +923,10 @@ public final class PromiseTest {
         Due.is("saying it halves it", -1, y.latest(0, 2));
         y.warm(0, 4);
         Due.is("saying it till it", 12, y.latest(0, 2));
+        GoneRed z = Due.world("warms glances * 60; cools 0; looks second = 0;");
+        z.face(0, 0, 0);
+        z.face(0, 0, 1);
+        Due.is("turning away at once", 0, z.latest(0, 0));
     }
 
     private static void adds() {
@@ -1064,6 +1090,10 @@ public final class PromiseTest {
         y.face(0, 61, 0);
         Due.is("6: red behind 61 .. 36: 12", 9, 15 - y.shade(0, 0));
         Due.is("61, 59, .. 37, at 6 red from 36 on", 12, y.shade(0, 1));
+        GoneRed z = Due.world("warms 0; cools (light = 9) * 99; looks 0;");
+        z.face(0, 61, 0);
+        Due.is("9", 9, z.shade(0, 0));
+        Due.is("never red", 0, z.shade(0, 1));
     }
 
     private static void sets() {
@@ -1111,6 +1141,9 @@ public final class PromiseTest {
         GoneRed w = Due.world("warms 0; cools 0; looks 0;");
         w.face(29, 0, 0);
         Due.is("150", 150, w.needs(0));
+        GoneRed v = Due.world("warms 0; cools (second = 0) * 99; looks 0;");
+        v.face(0, 0, 0);
+        Due.is("60 and 99: it comes in second 0", 160, v.needs(0));
     }
 
     private static void asked() {
@@ -1288,6 +1321,7 @@ public final class PromiseTest {
         y.face(9, 0, 1);
         tell(y, 0, 0);
         Due.is("another without looks", 2, y.through(0, 0, 40000));
+        Due.is("so little", 2, y.through(0, 0, 0));
         Due.is("muchAt", NOT_TOLD, y.through(0, 0, -1));
         Due.is("second", NOT_TOLD, y.through(0, 0, 40));
         Due.is("second", NOT_TOLD, y.through(0, 0, 99));
@@ -1430,6 +1464,9 @@ public final class PromiseTest {
         Due.is("of 2", 2, x.odds(0, 2, 60, 31));
         Due.is("none: 0", 0, x.odds(0, 20, 59, 0));
         Due.is("of 1", 1, x.odds(0, 20, 59, 1));
+        GoneRed y = Due.world("warms 0; cools 99; looks 0;");
+        y.face(0, 0, 0);
+        Due.is("red once is red", 1, y.odds(0, 1, 60, 0));
         Due.is("seed", NO, x.odds(-1, 1, 60, 0));
         Due.is("seed", NO, x.odds(100000, 1, 60, 0));
         Due.is("seeds", NO, x.odds(0, 0, 60, 0));
@@ -1520,6 +1557,10 @@ public final class PromiseTest {
         x.face(0, 0, 0);
         x.force(Due.text(x, STILL));
         Due.is("all 0", -1, x.judge(0, 0));
+        x.sheet(0, 1, 1);
+        x.cell(0, 0, 7);
+        x.sheet(0, 1, 8);
+        Due.is("all 0 anew", -1, x.judge(0, 0));
         Due.is("n does not matter", 1, x.sheet(3, -1, 41));
         Due.is("missing", -11, x.cell(3, 0, 0));
         Due.is("n does not matter", 1, x.sheet(3, -1, LOW));
