@@ -20,6 +20,7 @@ public final class BoundsTest {
         grammar();
         ints();
         faultPlaces();
+        whereTokensStand();
         faultsByOpenOnes();
         texts();
         names();
@@ -319,6 +320,23 @@ public final class BoundsTest {
         read("warms |" + (char) 255);
         read("warms |" + (char) 0);
         readE("1 + |foo", "|foo + 1", "|12345 + foo", "1 |@");
+    }
+
+    /** Each TOKEN in each place of a TEXT that takes some and not others. */
+    private static void whereTokensStand() {
+        Doc.terms("the place of the first byte of the first TOKEN that can't stand there");
+        String tokens = " warms cools looks or and not warmth glances light second seen more 7 ( ) ; + - * < = ";
+        for (String token : tokens.trim().split(" ")) {
+            boolean one = " not warmth glances light second seen more 7 ( - ".contains(" " + token + " ");
+            boolean joint = " or and + - * < = ; ".contains(" " + token + " ");
+            // what may stand is followed by one that may not
+            read("warms " + (one ? token + " |)" : "|" + token) + " 1;cools 1;looks 1;");
+            read("warms 1 " + (joint ? token + " |)" : "|" + token) + " 1;cools 1;looks 1;");
+            read(token.equals("warms") ? "warms |)" : "|" + token + " 1;cools 1;looks 1;");
+            read("warms 1;" + (token.equals("cools") ? "cools |)" : "|" + token) + " 1;looks 1;");
+            read("warms 1;cools 1;" + (token.equals("looks") ? "looks |)" : "|" + token) + " 1;");
+            read("warms 1;cools 1;looks 1;|" + token);
+        }
     }
 
     private static void faultsByOpenOnes() {
