@@ -1319,6 +1319,10 @@ public final class GoneRed {
             }
         }
 
+        static int keyOf(int part) {
+            return part == Texts.WARMS ? WARMS : part == Texts.COOLS ? COOLS : LOOKS;
+        }
+
         static boolean isName(int token) {
             return token < 0 && token >= LAST_NAME;
         }
@@ -1445,9 +1449,12 @@ public final class GoneRed {
             fault = NONE;
             texts.beginNext();
             step();
-            readPart(Word.WARMS, Texts.WARMS);
-            readPart(Word.COOLS, Texts.COOLS);
-            readPart(Word.LOOKS, Texts.LOOKS);
+            for (int part = 0; part < Texts.PARTS; part++) {
+                expect(Word.keyOf(part));
+                readOr(0);
+                expect(Word.SEMICOLON);
+                texts.endPart(part);
+            }
             if (token != Word.END) {
                 fail();
             }
@@ -1456,13 +1463,6 @@ public final class GoneRed {
             }
             size = 0;
             return fault;
-        }
-
-        private void readPart(int key, int part) {
-            expect(key);
-            readOr(0);
-            expect(Word.SEMICOLON);
-            texts.endPart(part);
         }
 
         private void readOr(int open) {

@@ -2,6 +2,7 @@ import java.io.IOException;
 import java.nio.charset.StandardCharsets;
 import java.nio.file.Files;
 import java.nio.file.Path;
+import java.util.List;
 import java.util.Map;
 import java.util.TreeMap;
 
@@ -29,6 +30,17 @@ final class Doc {
             WHOLE.put(n, even(body.substring(body.indexOf("`: ") + 3)));
         }
         LEFT.putAll(WHOLE);
+    }
+
+    /** "The public face", line by line; none, where there is no document. */
+    static List<String> face() throws IOException {
+        if (!Files.isReadable(FILE)) {
+            System.out.println("no " + FILE + ": whether its face is the class's is not looked up");
+            return List.of();
+        }
+        String doc = Files.readString(FILE, StandardCharsets.UTF_8);
+        int from = doc.indexOf("```java\n", doc.indexOf("## The public face")) + 8;
+        return doc.substring(from, doc.indexOf("```", from)).lines().toList();
     }
 
     private static String even(String words) {

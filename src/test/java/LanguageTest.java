@@ -25,6 +25,7 @@ public final class LanguageTest {
 
     public static void main(String[] args) throws IOException {
         face();
+        documentsFace();
         classes();
         source();
         Due.end();
@@ -72,6 +73,27 @@ public final class LanguageTest {
         Due.is("NO", -4611686018427387904L, GoneRed.NO);
         int itself = GoneRed.class.getModifiers();
         Due.that("public and final", Modifier.isPublic(itself) && Modifier.isFinal(itself));
+    }
+
+    /** Each line of it stands in the source, in its order, and no other is public. */
+    private static void documentsFace() throws IOException {
+        Due.part("the document's face");
+        List<String> due = Doc.face();
+        if (due.isEmpty()) {
+            return;
+        }
+        List<String> are = new ArrayList<>();
+        for (String line : Files.readAllLines(Path.of("src/main/java/GoneRed.java"))) {
+            if (line.startsWith("public ") || line.startsWith("    public ")) {
+                are.add(line.startsWith(" ") ? line.replaceFirst("\\) \\{$", ");") : line);
+            }
+        }
+        are.add("}");
+        for (int i = 0; i < Math.max(due.size(), are.size()); i++) {
+            String want = i < due.size() ? due.get(i) : "no more";
+            String got = i < are.size() ? are.get(i) : "no more";
+            Due.that("line " + i + " (" + got + ") is " + want, want.equals(got));
+        }
     }
 
     private static List<Class<?>> all() {
